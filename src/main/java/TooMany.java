@@ -559,7 +559,7 @@ public final class TooMany {
         final int seats;
         final int miles;
         boolean isOff = false;
-        /** Used while parties are moved alone. */
+        /** Seats not taken, below 0 if it is over; true only while move() runs. */
         int free = 0;
 
         Flight(int number, int from, int to, int departs, int arrives, int seats, int miles) {
@@ -640,7 +640,7 @@ public final class TooMany {
         private static final int MOST_WAYS = 12;
         // One person more outweighs all that MOST_MOVED parties can be late together.
         private static final int PERSON = MOST_MOVED * MOST_SIZE * (LAST_MINUTE + 1);
-        // A party's place among its ways is a digit of so many bits; no way at all is digit 0.
+        // How much a party's way is preferred is a digit of so many bits; no way at all is digit 0.
         private static final int DIGIT_BITS = 4;
         private static final int NO_WAY_PLACE = 15;
 
@@ -663,7 +663,7 @@ public final class TooMany {
             bestSum = 0;
         }
 
-        /** Adds a party that is number turnOfIt, from 0, of the stranded ones. */
+        /** Adds a stranded party, before which turnOfIt others come by number. */
         void addParty(Party p, int turnOfIt) {
             if (count >= MOST_MOVED || turnOfIt < 0 || turnOfIt >= MOST_MOVED) {
                 return;

@@ -1,12 +1,5 @@
-import java.util.NoSuchElementException;
-
 /** One function a promise: ordinary inputs, the edges that the document names, wrong inputs. */
-public final class PromiseTest {
-    private static final int NONE = TooMany.NONE;
-    private static final int LEAST = Integer.MIN_VALUE;
-    private static final int MOST = Integer.MAX_VALUE;
-    private static int wrong = 0;
-
+public final class PromiseTest extends Checks {
     public static void main(String[] args) {
         promise1New();
         promise2Flight();
@@ -32,70 +25,7 @@ public final class PromiseTest {
         promise16MoveLimit();
         promise16MoveWeights();
         promise17Undo();
-        if (wrong != 0) {
-            System.out.println(wrong + " answers are not as due");
-            System.exit(1);
-        }
-    }
-
-    private static void due(String call, long got, long want) {
-        if (got != want) {
-            wrong++;
-            System.out.println(call + " answered " + got + ", due is " + want);
-        }
-    }
-
-    private static void due(String call, boolean got, boolean want) {
-        due(call, got ? 1 : 0, want ? 1 : 0);
-    }
-
-    private static void dueThrow(String call, TooMany x, int party, int what) {
-        boolean thrown = false;
-        try {
-            x.of(party, what);
-        } catch (NoSuchElementException e) {
-            thrown = true;
-        }
-        due(call + " of(" + party + ", " + what + ") throws", thrown, true);
-    }
-
-    /** The states of the first parties, one digit each. */
-    private static String states(TooMany x) {
-        StringBuilder all = new StringBuilder();
-        for (int p = 0; p < x.count(1); p++) {
-            all.append(x.of(p, 0));
-        }
-        return all.toString();
-    }
-
-    /** All that can be asked, so that two moments can be compared. */
-    private static String whole(TooMany x) {
-        StringBuilder all = new StringBuilder();
-        for (int f = 0; f < x.count(0); f++) {
-            for (int what = 0; what < 5; what++) {
-                all.append(x.told(f, what)).append(' ');
-            }
-        }
-        for (int p = 0; p < x.count(1); p++) {
-            for (int what = 0; what < 8; what++) {
-                all.append(x.of(p, what)).append(' ');
-            }
-        }
-        return all.toString();
-    }
-
-    private static void dueText(String call, String got, String want) {
-        if (!got.equals(want)) {
-            wrong++;
-            System.out.println(call + " answered " + got + ", due is " + want);
-        }
-    }
-
-    /** One flight from 0 to 1, minutes 100 to 200, 1000 miles. */
-    private static TooMany oneFlight(int seats) {
-        TooMany x = new TooMany();
-        x.flight(0, 1, 100, 200, seats, 1000);
-        return x;
+        end();
     }
 
     private static void promise1New() {
@@ -682,30 +612,6 @@ public final class PromiseTest {
         y.party(0, 1, 1, 6, false);
         y.buy(0);
         due("one that gave", y.stranded(), 1);
-    }
-
-    /** Parties of these sizes left on a flight from 0 to 1, minutes 100 to 200. */
-    private static TooMany allLeft(int... sizes) {
-        TooMany x = oneFlight(1);
-        for (int size : sizes) {
-            x.party(0, size, 0, NONE, false);
-        }
-        x.off(0, true);
-        x.leave(0);
-        return x;
-    }
-
-    /** First and second flight of each party's way, as 1-, 12, --. */
-    private static String ways(TooMany x) {
-        StringBuilder all = new StringBuilder();
-        for (int p = 0; p < x.count(1); p++) {
-            all.append(p == 0 ? "" : " ");
-            for (int what = 4; what < 6; what++) {
-                int flight = x.of(p, what);
-                all.append(flight == NONE ? "-" : String.valueOf(flight));
-            }
-        }
-        return all.toString();
     }
 
     private static void promise16Move() {

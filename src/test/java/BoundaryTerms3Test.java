@@ -330,6 +330,24 @@ public final class BoundaryTerms3Test extends Checks {
         more.leave(1);
         due("6 that are 9998 late, not 5 that are 1 late", more.move(), 6);
         dueText("ways", ways(more), "24 --");
+        TooMany most = new TooMany();
+        most.flight(0, 1, 0, 1, 1, 1);
+        most.flight(3, 1, 0, 9998, 1, 1);
+        most.flight(0, 2, 0, 100, 40, 1);
+        most.flight(3, 2, 0, 100, 40, 1);
+        most.flight(2, 1, 200, 9999, 15, 1);
+        for (int size : new int[] {5, 5, 5}) {
+            most.party(0, size, 0, NONE, false);
+        }
+        for (int size : new int[] {6, 6, 2}) {
+            most.party(1, size, 0, NONE, false);
+        }
+        most.off(0, true);
+        most.off(1, true);
+        most.leave(0);
+        most.leave(1);
+        due("15 that are 9998 late, not 14 that are 1 late", most.move(), 15);
+        dueText("ways", ways(most), "24 24 24 -- -- --");
     }
 
     private static void theLeastLate() {
@@ -360,6 +378,16 @@ public final class BoundaryTerms3Test extends Checks {
         sum.flight(0, 1, 100, 400, 4, 1000);
         sum.move();
         dueText("the sum alike: the first ones by the less flight", ways(sum), "1- 1- 2-");
+        TooMany order = allLeft(1, 1, 1, 1, 1, 1);
+        order.flight(0, 2, 100, 110, 9, 1000);
+        order.flight(2, 1, 200, 303, 1, 1000);
+        order.flight(0, 1, 100, 304, 1, 1000);
+        order.flight(2, 1, 200, 301, 1, 1000);
+        order.flight(0, 1, 100, 302, 1, 1000);
+        order.flight(2, 1, 200, 300, 1, 1000);
+        order.flight(0, 1, 100, 305, 1, 1000);
+        due("each by a way of its own", order.move(), 6);
+        dueText("the less flights for the first ones", ways(order), "12 14 16 3- 5- 7-");
     }
 
     private static void theLessFirstFlight() {
@@ -433,6 +461,15 @@ public final class BoundaryTerms3Test extends Checks {
         first.flight(3, 1, 200, 300, 9, 1000);
         first.move();
         dueText("the first flight is asked ahead of it", ways(first), "24");
+        TooMany zero = new TooMany();
+        zero.flight(2, 1, 200, 300, 9, 1000);
+        zero.flight(0, 1, 100, 150, 1, 1000);
+        zero.flight(2, 1, 200, 300, 9, 1000);
+        zero.flight(0, 2, 100, 110, 9, 1000);
+        zero.party(1, 2, 0, NONE, false);
+        zero.leave(1);
+        zero.move();
+        dueText("flight 0 too", ways(zero), "30");
     }
 
     private static void noneIsBehindAll() {

@@ -9,8 +9,10 @@ import java.util.Random;
  * document word for word: it tries every set of bidders, every offer and every choice of ways.
  */
 public final class ModelTest {
-    private static final int RUNS = 4000;
-    private static final int CALLS = 160;
+    private static final int RUNS = 8000;
+    // With two questions behind each call and all of them at the end a run stays below 512 calls.
+    private static final int CALLS = 100;
+    private static final int QUESTIONS = 2;
     private static final int KNOTS = 600;
     private static final int THROWN = -77;
     private static final int[] OFTEN = {0, 1, 1, 2, 3, 4, 5, 6, 7, 8, 9, 10, 10, 11, 11, 11, 12, 12, 12, 13, 14, 14, 14, 14, 15, 15};
@@ -20,12 +22,16 @@ public final class ModelTest {
         for (int run = 0; run < RUNS; run++) {
             Random random = new Random(run);
             Run one = new Run(random);
-            for (int call = 0; call < CALLS; call++) {
-                String wrong = one.step(answered);
-                if (wrong != null) {
-                    System.out.println("run " + run + ": " + one.told + wrong);
-                    System.exit(1);
-                }
+            String wrong = null;
+            for (int call = 0; call < CALLS && wrong == null; call++) {
+                wrong = one.step(answered);
+            }
+            if (wrong == null) {
+                wrong = one.sameWhole();
+            }
+            if (wrong != null) {
+                System.out.println("run " + run + ": " + one.told + wrong);
+                System.exit(1);
             }
         }
         for (int run = 0; run < KNOTS; run++) {
@@ -36,7 +42,7 @@ public final class ModelTest {
             }
         }
         for (int kind = 0; kind < answered.length; kind++) {
-            if (answered[kind] < RUNS / 8) {
+            if (answered[kind] < RUNS / 16) {
                 System.out.println("call " + kind + " answered above 0 only " + answered[kind] + " times");
                 System.exit(1);
             }
@@ -131,7 +137,18 @@ public final class ModelTest {
             }
             made++;
             String wrong = call(kind, answered);
-            return wrong != null ? wrong : sameWhole();
+            for (int n = 0; n < QUESTIONS && wrong == null; n++) {
+                wrong = question();
+            }
+            return wrong;
+        }
+
+        private String question() {
+            if (m.parties.isEmpty()) {
+                return null;
+            }
+            return random.nextInt(4) == 0 ? sameFlight(upTo(m.flights.size() - 1), upTo(4))
+                : sameParty(upTo(m.parties.size() - 1), upTo(7));
         }
 
         private String call(int kind, int[] answered) {
@@ -233,17 +250,31 @@ public final class ModelTest {
             }
         }
 
+        private String sameParty(int p, int what) {
+            int got = thrownOr(p, what);
+            int due = m.of(p, what);
+            return got == due ? null : "then of(" + p + ", " + what + ") answered " + got + ", due is " + due;
+        }
+
+        private String sameFlight(int f, int what) {
+            int got = x.told(f, what);
+            int due = m.told(f, what);
+            return got == due ? null : "then told(" + f + ", " + what + ") answered " + got + ", due is " + due;
+        }
+
         private String sameWhole() {
+            String wrong = null;
             for (int p = 0; p < m.parties.size(); p++) {
-                for (int what = 0; what < 8; what++) {
-                    int got = thrownOr(p, what);
-                    int due = m.of(p, what);
-                    if (got != due) {
-                        return "then of(" + p + ", " + what + ") answered " + got + ", due is " + due;
-                    }
+                for (int what = 0; what < 8 && wrong == null; what++) {
+                    wrong = sameParty(p, what);
                 }
             }
-            return null;
+            for (int f = 0; f < m.flights.size(); f++) {
+                for (int what = 0; what < 5 && wrong == null; what++) {
+                    wrong = sameFlight(f, what);
+                }
+            }
+            return wrong;
         }
     }
 

@@ -18,6 +18,7 @@ public final class BoundaryTerms3Test extends Checks {
         theMostPeople();
         theLeastLate();
         theLessFirstFlight();
+        theFirstPartyThatIsNotAlike();
         oneAloneAheadOfTwo();
         theLessSecondFlight();
         noneIsBehindAll();
@@ -421,6 +422,34 @@ public final class BoundaryTerms3Test extends Checks {
         zero.leave(1);
         zero.move();
         dueText("flight 0 too", ways(zero), "0-");
+    }
+
+    private static void theFirstPartyThatIsNotAlike() {
+        about("Terms 3: MOVED: for the first PARTY that is not alike");
+        TooMany x = new TooMany();
+        for (int from : new int[] {0, 2, 3}) {
+            x.flight(from, 1, 100, 200, 1, 1000);
+        }
+        x.flight(0, 2, 100, 110, 9, 1000);
+        x.flight(0, 3, 100, 110, 9, 1000);
+        x.flight(2, 1, 200, 300, 3, 1000);
+        x.flight(3, 1, 200, 300, 3, 1000);
+        x.party(0, 3, 0, NONE, false);
+        x.party(1, 1, 0, NONE, false);
+        x.party(1, 1, 0, NONE, false);
+        x.party(2, 2, 0, NONE, false);
+        for (int f = 0; f < 3; f++) {
+            x.off(f, true);
+            x.leave(f);
+        }
+        due("the first and two more", x.move(), 5);
+        dueText("the less flight for the first, though the next two then have none", ways(x), "35 -- -- 6-");
+        TooMany second = allLeft(1, 1, 1);
+        second.flight(0, 1, 100, 300, 1, 1000);
+        second.flight(0, 1, 100, 300, 1, 1000);
+        second.flight(0, 1, 100, 300, 1, 1000);
+        second.move();
+        dueText("the first, then the second, then the third", ways(second), "1- 2- 3-");
     }
 
     /** One flight is never a way alone and the first of two as well, so the first flights always differ. */
